@@ -497,13 +497,13 @@ public final class ScholarsPress {
 
         /** A byte of a NAME as a digit of base 37, so that a whole NAME is one long; 0 for others. */
         static int nameDigit(int c) {
-            if (isSmall(c)) {
+            if (c >= 'a' && c <= 'z') {
                 return c - 'a' + 1;
             }
-            return isDigit(c) ? c - '0' + 27 : 0;
+            return c >= '0' && c <= '9' ? c - '0' + 27 : 0;
         }
 
-        /** Which word of a list with blanks between a NAME is, -1 if none. */
+        /** Which word of a list with blanks between, all of small letters, a NAME is; -1 if none. */
         static int listed(String list, long name) {
             int word = 0;
             long code = 0;
@@ -516,7 +516,7 @@ public final class ScholarsPress {
                     word++;
                     code = 0;
                 } else {
-                    code = code * 37 + nameDigit(c);
+                    code = code * 37 + c - 'a' + 1;
                 }
             }
             return code == name ? word : -1;
@@ -543,10 +543,11 @@ public final class ScholarsPress {
             return span & 16383;
         }
 
+        /** The NAME that a word of small letters is. */
         static long nameCode(String word) {
             long code = 0;
             for (int i = 0; i < word.length(); i++) {
-                code = code * 37 + nameDigit(word.charAt(i));
+                code = code * 37 + word.charAt(i) - 'a' + 1;
             }
             return code;
         }
@@ -562,49 +563,37 @@ public final class ScholarsPress {
             return kind == OTHER && number == c;
         }
 
+        /** The next SIGN; one that is too long, or a STRING without its end, is BAD wherever it stands. */
         void next() {
             at = behindBlanks(text, at, length);
             start = at;
-            if (at >= length) {
+            int c = at < length ? text[at] & 255 : -1;
+            if (c < 0) {
                 kind = END;
-            } else if (isSmall(text[at])) {
-                readName();
-            } else if (isDigit(text[at])) {
-                readNumber();
-            } else if (text[at] == '"') {
-                readString();
+            } else if (c >= 'a' && c <= 'z') {
+                name = 0;
+                for (; at < length && nameDigit(text[at]) > 0; at++) {
+                    name = name * 37 + nameDigit(text[at]);
+                }
+                kind = at - start > NAME_LIMIT ? BAD : NAME;
+            } else if (c >= '0' && c <= '9') {
+                number = 0;
+                for (; at < length && text[at] >= '0' && text[at] <= '9'; at++) {
+                    number = number * 10 + text[at] - '0';
+                }
+                kind = at - start > NUMBER_LIMIT ? BAD : NUMBER;
+            } else if (c == '"') {
+                kind = BAD;
+                for (at++; at < length && text[at] >= 32 && text[at] <= 126 && kind == BAD; at++) {
+                    if (text[at] == '"') {
+                        stop = at;
+                        kind = STRING;
+                    }
+                }
             } else {
                 kind = OTHER;
-                number = text[at] & 255;
+                number = c;
                 at++;
-            }
-        }
-
-        private void readName() {
-            long code = 0;
-            for (; at < length && nameDigit(text[at]) > 0; at++) {
-                code = code * 37 + nameDigit(text[at]);
-            }
-            name = code;
-            kind = at - start > NAME_LIMIT ? BAD : NAME;
-        }
-
-        private void readNumber() {
-            int value = 0;
-            for (; at < length && isDigit(text[at]); at++) {
-                value = value * 10 + text[at] - '0';
-            }
-            number = value;
-            kind = at - start > NUMBER_LIMIT ? BAD : NUMBER;
-        }
-
-        private void readString() {
-            kind = BAD;
-            for (at++; at < length && text[at] >= 32 && text[at] <= 126 && kind == BAD; at++) {
-                if (text[at] == '"') {
-                    stop = at;
-                    kind = STRING;
-                }
             }
         }
     }
@@ -1240,7 +1229,11 @@ public final class ScholarsPress {
                 condition[row + STOP] = s.stop;
                 s.next();
             }
-            return pass(s, ']');
+            if (!s.is(']')) {
+                return false;
+            }
+            s.next();
+            return true;
         }
 
         private boolean readColon(Signs s) {
@@ -1255,13 +1248,21 @@ public final class ScholarsPress {
             if (kind < IS_NTH) {
                 return true;
             }
-            if (!pass(s, '(') || s.kind != (kind == IS_NTH ? Signs.NUMBER : Signs.NAME)) {
+            if (!s.is('(')) {
+                return false;
+            }
+            s.next();
+            if (s.kind != (kind == IS_NTH ? Signs.NUMBER : Signs.NAME)) {
                 return false;
             }
             condition[row + FROM] = s.number;
             conditionNames[conditions] = s.name;
             s.next();
-            return pass(s, ')');
+            if (!s.is(')')) {
+                return false;
+            }
+            s.next();
+            return true;
         }
 
         private static boolean pass(Signs s, char c) {
@@ -1326,8 +1327,12 @@ public final class ScholarsPress {
             } else if (sort == 'n') {
                 fine = s.kind == Signs.NUMBER && s.number >= LOW[property] && s.number <= HIGH[property];
                 toldValue[told] = s.number;
+            } else if (sort == 'l') {
+                fine = readLabel(s);
             } else {
-                fine = sort == 'l' ? readLabel(s) : s.kind == Signs.NAME && readName(s, property, sort);
+                toldValue[told] = s.kind != Signs.NAME ? -1
+                        : sort == 'c' ? counterOf(s.name) : Signs.listed(choices(property), s.name);
+                fine = toldValue[told] >= 0;
             }
             if (!fine) {
                 return false;
@@ -1366,11 +1371,6 @@ public final class ScholarsPress {
             boolean none = s.kind == Signs.NAME && Signs.listed("none", s.name) == 0;
             toldValue[told] = none ? -1 : Signs.span(s.start + 1, s.stop);
             return none || s.kind == Signs.STRING;
-        }
-
-        private boolean readName(Signs s, int property, char sort) {
-            toldValue[told] = sort == 'c' ? counterOf(s.name) : Signs.listed(choices(property), s.name);
-            return toldValue[told] >= 0;
         }
 
         private static String choices(int property) {
@@ -1526,29 +1526,20 @@ public final class ScholarsPress {
             depth = 0;
             lastTop = -1;
             for (int n = 0; n <= length && at < length; n++) {
-                if (!readPiece()) {
+                int c = text[at];
+                boolean fine = c == 10 || (c >= 32 && c <= 126);
+                if (c == '<' || c == '&') {
+                    at++;
+                    fine = c == '<' ? readMark() : readEntity();
+                } else if (fine) {
+                    pushText(c);
+                    at++;
+                }
+                if (!fine) {
                     return false;
                 }
             }
             return open < 0;
-        }
-
-        private boolean readPiece() {
-            int c = text[at];
-            if (c == '<') {
-                at++;
-                return readMark();
-            }
-            if (c == '&') {
-                at++;
-                return readEntity();
-            }
-            if (c != 10 && (c < 32 || c > 126)) {
-                return false;
-            }
-            pushText(c);
-            at++;
-            return true;
         }
 
         private boolean readMark() {
@@ -1754,7 +1745,9 @@ public final class ScholarsPress {
 
         private boolean skipBlanks() {
             int start = at;
-            at = Signs.behindBlanks(text, at, length);
+            while (at < length && (text[at] == 10 || text[at] == 32)) {
+                at++;
+            }
             return at > start;
         }
 
@@ -1852,6 +1845,8 @@ public final class ScholarsPress {
         static final int TITLE_LIMIT = 40;
         static final int ENTRY_LIMIT = 300;
         static final int CELL_LIMIT = 8;
+        static final int ROMAN_FORM = 1;
+        static final int LETTER_FORM = 2;
         static final int[] ROMAN = {1000, 900, 500, 400, 100, 90, 50, 40, 10, 9, 5, 4, 1};
         static final char[] ROMAN_SIGNS = {'m', ' ', 'c', 'm', 'd', ' ', 'c', 'd', 'c', ' ', 'x', 'c', 'l', ' ',
             'x', 'l', 'x', ' ', 'i', 'x', 'v', ' ', 'i', 'v', 'i', ' '};
@@ -2166,17 +2161,24 @@ public final class ScholarsPress {
 
         /** Writes a number in its form into spelled; answers how many bytes. */
         int spell(int value, int form) {
-            if (form == 1 && value >= 1 && value <= 3999) {
-                return spellRoman(value);
-            }
-            int base = form == 2 && value >= 1 ? 26 : 10;
             int length = 0;
             int left = value;
-            for (int n = 0; n < 10 && (n == 0 || left > 0); n++) {
-                if (base == 26) {
-                    left--;
+            if (form == ROMAN_FORM && value >= 1 && value <= 3999) {
+                for (int k = 0; k < ROMAN.length; k++) {
+                    for (; left >= ROMAN[k]; left -= ROMAN[k]) {
+                        spelled[length] = (byte) ROMAN_SIGNS[2 * k];
+                        spelled[length + 1] = (byte) ROMAN_SIGNS[2 * k + 1];
+                        length += ROMAN_SIGNS[2 * k + 1] == ' ' ? 1 : 2;
+                    }
                 }
-                spelled[length] = (byte) (left % base + (base == 26 ? 'a' : '0'));
+                return length;
+            }
+            boolean letters = form == LETTER_FORM && value >= 1;
+            int base = letters ? 26 : 10;
+            for (int n = 0; n < 10 && (n == 0 || left > 0); n++) {
+                // letters have no zero: z is followed by aa
+                left -= letters ? 1 : 0;
+                spelled[length] = (byte) (left % base + (letters ? 'a' : '0'));
                 length++;
                 left /= base;
             }
@@ -2184,23 +2186,6 @@ public final class ScholarsPress {
                 byte kept = spelled[i];
                 spelled[i] = spelled[length - 1 - i];
                 spelled[length - 1 - i] = kept;
-            }
-            return length;
-        }
-
-        private int spellRoman(int value) {
-            int length = 0;
-            int left = value;
-            for (int k = 0; k < ROMAN.length; k++) {
-                for (int n = 0; n < 3 && left >= ROMAN[k]; n++) {
-                    left -= ROMAN[k];
-                    for (int i = 2 * k; i < 2 * k + 2; i++) {
-                        if (ROMAN_SIGNS[i] != ' ') {
-                            spelled[length] = (byte) ROMAN_SIGNS[i];
-                            length++;
-                        }
-                    }
-                }
             }
             return length;
         }
@@ -2951,7 +2936,7 @@ public final class ScholarsPress {
 
     /** Parts WORDS at BREAKS, and takes of all rows of BREAKS the one of the least cost. */
     private static final class Breaker {
-        static final long NEVER = Long.MAX_VALUE;
+        static final long NEVER = 0x7fffffffffffffffL;
         static final int ALL_BUT_TOO_LONG = 10000;
         static final int ALL = 10001;
         static final int CLASSES = 4;
@@ -3318,8 +3303,8 @@ public final class ScholarsPress {
         int lines;
         final int[] noteFacts;
         int notes;
-        final int[] floatElements;
-        final int[] floatHeights;
+        // the ELEMENT of a float and its height, behind each other
+        final int[] floatFacts;
         int floats;
         final int[] columnFacts;
         int columns;
@@ -3341,8 +3326,7 @@ public final class ScholarsPress {
             texts = new Texts();
             lineFacts = new int[LINE_LIMIT * LINE_FACTS];
             noteFacts = new int[NOTE_LIMIT * NOTE_FACTS];
-            floatElements = new int[FLOAT_LIMIT];
-            floatHeights = new int[FLOAT_LIMIT];
+            floatFacts = new int[FLOAT_LIMIT * 2];
             columnFacts = new int[(COLUMN_LIMIT + 1) * COLUMN_FACTS];
             heads = new int[COLUMN_LIMIT + 1];
             elementFacts = new int[Source.ELEMENTS * ELEMENT_FACTS];
@@ -3395,10 +3379,18 @@ public final class ScholarsPress {
             if (floats == FLOAT_LIMIT) {
                 return false;
             }
-            floatElements[floats] = e;
-            floatHeights[floats] = Math.min(height, page[Style.PAGE_HEIGHT]);
+            floatFacts[floats * 2] = e;
+            floatFacts[floats * 2 + 1] = Math.min(height, page[Style.PAGE_HEIGHT]);
             floats++;
             return true;
+        }
+
+        int floatElement(int f) {
+            return floatFacts[f * 2];
+        }
+
+        int floatHeight(int f) {
+            return floatFacts[f * 2 + 1];
         }
 
         /** The lines of FLOW; answers whether they are few enough. */
@@ -3538,7 +3530,7 @@ public final class ScholarsPress {
             for (int c = 0; c < columns; c++) {
                 int top = 0;
                 for (int f = columnFact(c, FLOATS); f < columnFact(c + 1, FLOATS); f++) {
-                    top += floatHeights[f];
+                    top += floatHeight(f);
                 }
                 if (page[Style.PAGE_LINES] == 1 && c % perPage == 0) {
                     number = 0;
@@ -3714,15 +3706,15 @@ public final class ScholarsPress {
 
         int tellFloat(int f, int what) {
             if (what == 0) {
-                return floatElements[f];
+                return floatElement(f);
             }
             if (what == 1 || lines == 0) {
-                return what == 3 ? 0 : elementFact(floatElements[f], BEGIN);
+                return what == 3 ? 0 : elementFact(floatElement(f), BEGIN);
             }
             int column = columnWith(FLOATS, f);
             int top = 0;
             for (int k = columnFact(column, FLOATS); k < f; k++) {
-                top += floatHeights[k];
+                top += floatHeight(k);
             }
             return what == 2 ? column : top;
         }
@@ -3766,7 +3758,7 @@ public final class ScholarsPress {
                 put(' ');
                 put('=');
                 put(10);
-                top += floatHeights[f];
+                top += floatHeight(f);
             }
         }
 
@@ -3918,7 +3910,7 @@ public final class ScholarsPress {
                 noteHeights[n + 1] = noteHeights[n] + (long) pages.noteLines(n) * pages.noteLead(n);
             }
             for (int f = 0; f < pages.floats; f++) {
-                floatsAhead[calledBy(pages.floatElements[f]) + 1]++;
+                floatsAhead[calledBy(pages.floatElement(f)) + 1]++;
             }
             for (int l = 1; l <= pages.lines; l++) {
                 notesAhead[l] += notesAhead[l - 1];
@@ -3965,8 +3957,8 @@ public final class ScholarsPress {
             int stop = notesAhead[l + 1];
             long used = least;
             int floating = ways[way * FACTS + FLOATS];
-            for (; floating < floatsAhead[l + 1] && used + pages.floatHeights[floating] <= height; floating++) {
-                used += pages.floatHeights[floating];
+            for (; floating < floatsAhead[l + 1] && used + pages.floatHeight(floating) <= height; floating++) {
+                used += pages.floatHeight(floating);
             }
             int open = stop > called ? Math.max(0, pages.noteLines(stop - 1) - 2) : Math.max(0, rest - 1);
             if (open > 0) {
@@ -4075,8 +4067,8 @@ public final class ScholarsPress {
                     used = rule + (long) more * lead;
                     placed += more;
                 }
-                for (; floating < pages.floats && used + pages.floatHeights[floating] <= height; floating++) {
-                    used += pages.floatHeights[floating];
+                for (; floating < pages.floats && used + pages.floatHeight(floating) <= height; floating++) {
+                    used += pages.floatHeight(floating);
                 }
                 pages.columns++;
                 int at = pages.columns * Pages.COLUMN_FACTS;
