@@ -2945,6 +2945,9 @@ public final class ScholarsPress {
         // of each BREAK and CLASS of the line that ends there
         final long[] costs;
         final int[] before;
+        // of the rows to a BREAK the best one, for each CLASS of a line that goes on from there
+        final long[] leadCosts;
+        final int[] leads;
         final int[] row;
         int rowLength;
         // of the line that was weighed last
@@ -2961,6 +2964,8 @@ public final class ScholarsPress {
             worth = new byte[Texts.BYTES];
             costs = new long[(Texts.BREAKS + 1) * CLASSES];
             before = new int[(Texts.BREAKS + 1) * CLASSES];
+            leadCosts = new long[CLASSES];
+            leads = new int[CLASSES];
             row = new int[Texts.BREAKS];
         }
 
@@ -3070,11 +3075,7 @@ public final class ScholarsPress {
             costs[1] = 0;
             before[1] = -1;
             for (int from = 0; from < count; from++) {
-                boolean reached = false;
-                for (int c = from * CLASSES; c < (from + 1) * CLASSES; c++) {
-                    reached = reached || costs[c] < NEVER;
-                }
-                if (reached) {
+                if (findLeads(from)) {
                     goOn(texts, p, from, tolerance);
                 }
             }
@@ -3088,7 +3089,25 @@ public final class ScholarsPress {
             return best;
         }
 
-        /** Tries all lines from a BREAK on. */
+        /** Answers whether there is a row to the BREAK at all. */
+        private boolean findLeads(int from) {
+            boolean reached = false;
+            Arrays.fill(leadCosts, NEVER);
+            for (int state = from * CLASSES; state < (from + 1) * CLASSES; state++) {
+                for (int c = 0; c < CLASSES && costs[state] < NEVER; c++) {
+                    boolean far = Math.abs(state - from * CLASSES - c) > 1;
+                    long cost = costs[state] + (far ? 10000 : 0);
+                    if (cost < leadCosts[c] || (cost == leadCosts[c] && comesFirst(state, leads[c]))) {
+                        leadCosts[c] = cost;
+                        leads[c] = state;
+                    }
+                    reached = true;
+                }
+            }
+            return reached;
+        }
+
+        /** Tries all lines from a BREAK on; of equal rows the first that came stays: its BREAK ahead is less. */
         private void goOn(Texts texts, int p, int from, int tolerance) {
             int base = texts.fact(p, Texts.BREAK) - 1;
             int count = texts.fact(p, Texts.BREAK_COUNT);
@@ -3108,34 +3127,16 @@ public final class ScholarsPress {
                 }
                 width += kind == Texts.HYPHEN ? own : 0;
                 long price = weigh(kindBefore, kind);
-                if (tolerance == ALL || (!tooLong && badness <= tolerance)) {
-                    arrive(from, to, price);
+                int state = to * CLASSES + grade;
+                boolean allowed = tolerance == ALL || (!tooLong && badness <= tolerance);
+                if (allowed && leadCosts[grade] + price < costs[state]) {
+                    costs[state] = leadCosts[grade] + price;
+                    before[state] = leads[grade];
                 }
                 if (just && kind == Texts.GLUE) {
                     stretch += own / 2;
                     shrink += own / 3;
                 }
-            }
-        }
-
-        /** Of equal rows the first that came stays: its BREAK ahead is less. */
-        private void arrive(int from, int to, long price) {
-            int best = -1;
-            long least = NEVER;
-            for (int c = 0; c < CLASSES; c++) {
-                int state = from * CLASSES + c;
-                if (costs[state] < NEVER) {
-                    long cost = costs[state] + price + (Math.abs(grade - c) > 1 ? 10000 : 0);
-                    if (cost < least || (cost == least && comesFirst(state, best))) {
-                        least = cost;
-                        best = state;
-                    }
-                }
-            }
-            int state = to * CLASSES + grade;
-            if (least < costs[state]) {
-                costs[state] = least;
-                before[state] = best;
             }
         }
 
@@ -3157,16 +3158,13 @@ public final class ScholarsPress {
         private long weigh(int kindBefore, int kind) {
             long over = width - room;
             tooLong = over > shrink;
-            if (over == 0 || (over < 0 && kind == Texts.LAST)) {
-                ratio = 0;
-            } else if (over < 0) {
-                ratio = stretch <= 0 ? 100000 : (int) Math.min(-over * 1000 / stretch, 100000);
+            if (tooLong) {
+                ratio = -1000;
+                badness = 10000;
+                grade = 0;
             } else {
-                ratio = tooLong || shrink <= 0 ? -1000 : (int) -((over * 1000 + shrink - 1) / shrink);
+                weighFitting(over, kind);
             }
-            long size = Math.abs(ratio);
-            badness = tooLong ? 10000 : (int) Math.min(100 * size * size * size / 1000000000L, 10000);
-            grade = ratio < -500 ? 0 : ratio <= 500 ? 1 : ratio <= 1000 ? 2 : 3;
             long price = (10L + badness) * (10L + badness);
             boolean parted = kind == Texts.HYPHEN || kind == Texts.DASH;
             boolean partedBefore = kindBefore == Texts.HYPHEN || kindBefore == Texts.DASH;
@@ -3177,6 +3175,19 @@ public final class ScholarsPress {
                 price += parted ? 3000 : kind == Texts.LAST ? 5000 : 0;
             }
             return price + (tooLong ? 1000000000L + over - shrink : 0);
+        }
+
+        private void weighFitting(long over, int kind) {
+            if (over == 0 || (over < 0 && kind == Texts.LAST)) {
+                ratio = 0;
+            } else if (over < 0) {
+                ratio = stretch <= 0 ? 100000 : (int) Math.min(-over * 1000 / stretch, 100000);
+            } else {
+                ratio = shrink <= 0 ? -1000 : (int) -((over * 1000 + shrink - 1) / shrink);
+            }
+            long size = Math.abs(ratio);
+            badness = (int) Math.min(100 * size * size * size / 1000000000L, 10000);
+            grade = ratio < -500 ? 0 : ratio <= 500 ? 1 : ratio <= 1000 ? 2 : 3;
         }
 
         /** Weighs one line by itself. */
