@@ -524,7 +524,7 @@ public final class ScholarsPress {
 
         static int behindBlanks(byte[] text, int from, int length) {
             int at = from;
-            while (at < length && isBlank(text[at])) {
+            while (at < length && (text[at] == 10 || text[at] == 32)) {
                 at++;
             }
             return at;
@@ -1745,9 +1745,7 @@ public final class ScholarsPress {
 
         private boolean skipBlanks() {
             int start = at;
-            while (at < length && (text[at] == 10 || text[at] == 32)) {
-                at++;
-            }
+            at = Signs.behindBlanks(text, at, length);
             return at > start;
         }
 
