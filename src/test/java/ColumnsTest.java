@@ -65,6 +65,20 @@ public final class ColumnsTest {
         press("page{height:24000;}", "<b>aa</b><b>bb</b><b>cc</b>");
         // of equal costs the last column begins with the least line: the column of the last line costs 0
         columns("the least cost", "001");
+        hyphened();
+    }
+
+    /** A column that is full but ends with a HYPHEN costs more than one that has a line less. */
+    private static void hyphened() {
+        for (int lead = 1000; lead <= 4000; lead += 3000) {
+            desk = new Desk();
+            desk.style("page{width:20000;height:" + 10 * lead + ";}b{show:block;lead:" + lead + ";hyphens:yes;first:1;last:1;tolerance:10000;}");
+            desk.hyphens("ends 11 a1b");
+            desk.source("<b>" + "cccc ".repeat(9) + "aaabbbb cccc</b>");
+            desk.press.set(1);
+            // nine lines, aaa- and bbbb, cccc: a column of ten ends with a HYPHEN (400), one of nine leaves a tenth (100)
+            columns("a column that ends with a HYPHEN", "000000000111");
+        }
     }
 
     private static void keep() {
@@ -116,6 +130,11 @@ public final class ColumnsTest {
         note(0, 1, 0, 6, 0, 4, 22000);
         Desk.due("columns", 2, desk.press.count(4));
         Desk.due("REST alone", "2 \n26000 0 yy\n28000 0 zz\n", desk.page(2));
+        press("page{height:30000;rule:10000;}n{lead:2000;}f{height:16000;}f:last{height:500000;}",
+                "<b>a<n>vv ww xx yy zz</n></b><f/><f/>");
+        Desk.due("REST, then floats as long as they are within", "2 \n0 =\n26000 0 yy\n28000 0 zz\n", desk.page(2));
+        Desk.due("a float as high as the page", "3 \n0 =\n", desk.page(3));
+        Desk.due("columns", 3, desk.press.count(4));
     }
 
     private static void aFloat(int f, int... due) {

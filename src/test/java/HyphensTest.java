@@ -99,6 +99,15 @@ public final class HyphensTest {
         places("ends 11 a1b", "ab-ab", 3);
         places("ends 11 a1b", "ab1ab", 2);
         places("", "-a--b-", 3);
+        places("ends 11 a1", "ab", 1);
+        places("ends 11 a1", "ba", 0);
+        places("ends 11 1a", "ba", 1);
+        places("ends 11 9z", "yz", 1);
+        places("ends 11 .1b a1b.", "ab", 1);
+        places("ends 11 b1", "ab", 0);
+        places("ends 24 a1b", "c aabbb", 1);
+        places("ends 23 a1b", "cc aabbb", 2);
+        places("ends 11 =a-ab =b-b", "c aab bb bb", 6);
         printed();
     }
 

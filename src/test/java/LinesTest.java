@@ -104,6 +104,8 @@ public final class LinesTest {
         press("page{width:30000;}b{left:1000;}c{show:block;left:200;right:30;}i{left:5;}", "<b>x<i><c>y</c></i></b>");
         Desk.due("within two BLOCKS", 30000 - 1230, desk.press.paragraph(1, 4));
         Desk.due("where it begins", 1200, desk.press.line(1, 6));
+        press("page{width:15000;}n{show:note;indent:9000;}", "<n>y</n>");
+        Desk.due("NOTES have no indent", 1, desk.press.note(0, 2));
         press("n{show:note;}*{indent:9000;}", "<b>x<n>y</n></b>");
         Desk.due("NOTES have no indent: width", 300000, desk.press.paragraph(1, 4));
         Desk.due("NOTES have no indent", "1 \n0 9000 x1\n388000 0 1 y\n", desk.page(1));

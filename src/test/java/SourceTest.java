@@ -37,6 +37,9 @@ public final class SourceTest {
         desk.broken("source", "<a x>", 4);
         desk.broken("source", "<a x=>", 5);
         desk.broken("source", "<a x=\"y>", 5);
+        desk.broken("source", "<a x=y\"z\"/>", 5);
+        desk.broken("source", "<!x y\"z\">", 4);
+        desk.broken("source", "<z9az x=\"~ !\"></z9az>", -1);
         desk.broken("source", "<a x=\"y\nz\">", 5);
         desk.broken("source", "<a x=\"y\" =>", 9);
         desk.broken("source", "<a x=\"y\" x=\"z\"/>", 9);

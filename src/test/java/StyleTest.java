@@ -33,6 +33,13 @@ public final class StyleTest {
         desk.broken("style", "a{size:5000;", 12);
         desk.broken("style", "a{size:999;}", 7);
         desk.broken("style", "a{size:100001;}", 7);
+        desk.broken("style", "a{size:100000;size:1000;size:1%;}", -1);
+        desk.broken("style", "a{lead:200000;indent:500000;left:500000;right:500000;above:500000;below:500000;}", -1);
+        desk.broken("style", "a{lead:200001;}", 7);
+        desk.broken("style", "a{right:500001;}", 8);
+        desk.broken("style", "a{above:500001;}", 8);
+        desk.broken("style", "a{below:500001;}", 8);
+        desk.broken("style", "a{tolerance:1;first:1;last:9;depth:0;height:0;}", -1);
         desk.broken("style", "a{size:0%;}", 7);
         desk.broken("style", "a{size:1000 % ;}", -1);
         desk.broken("style", "a{size:1001%;}", 7);
@@ -75,6 +82,9 @@ public final class StyleTest {
         desk.broken("style", "a:nth(12345678){}", 6);
         desk.broken("style", "page", 4);
         desk.broken("style", "page{width:9999;}", 11);
+        desk.broken("style", "page{width:10000;height:10000;columns:4;gap:100000;rule:100000;lines:no;}", -1);
+        desk.broken("style", "page{width:1000001;}", 11);
+        desk.broken("style", "page{height:9999;}", 12);
         desk.broken("style", "page{height:1000001;}", 12);
         desk.broken("style", "page{columns:5;}", 13);
         desk.broken("style", "page{columns:0;}", 13);
@@ -155,6 +165,12 @@ public final class StyleTest {
         desk.source("<a><b id=\"x\"/><b id=\"y\"> <c/></b><a><b/></a><c></c></a><b>&lt;</b><b><!-- --><!e \"\">&e;</b>");
         // 0 a, 1 b x, 2 b y, 3 c, 4 a, 5 b, 6 c, 7 b text, 8 b empty
         fits("*", "111111111");
+        desk.source("<zz9>x</zz9><a id=\"xyz\"/><a id=\"xya\"/>");
+        fits("*:empty", "011");
+        fits("zz9", "100");
+        fits("a[id=\"xyz\"]", "010");
+        fits("a[id=\"xy\"]", "000");
+        desk.source("<a><b id=\"x\"/><b id=\"y\"> <c/></b><a><b/></a><c></c></a><b>&lt;</b><b><!-- --><!e \"\">&e;</b>");
         fits("b", "011001011");
         fits("b[id]", "011000000");
         fits("b[id=\"y\"]", "001000000");

@@ -119,6 +119,12 @@ public final class TextTest {
         press(SHOWS, " a \n\n<i> b</i> <n>x</n> c <f/> ");
         text("blanks", "=|a b c");
         Desk.due("bytes", 5, desk.press.paragraph(0, 5));
+        press(SHOWS, "<b>x<i><b>y</b>z</i></b><b>w</b>v");
+        text("PARAGRAPHS in BLOCKS in one another", "x|y|z|w|v");
+        int[] around = {0, 2, 0, 3, -1};
+        for (int p = 0; p < 5; p++) {
+            Desk.due("whose PARAGRAPH " + p, around[p], desk.press.paragraph(p, 6));
+        }
         press(SHOWS + "b{label:\"L\";}", "<b><b>x</b></b>");
         text("a LABEL alone", "L|Lx");
     }
@@ -178,6 +184,8 @@ public final class TextTest {
     }
 
     private static void references() {
+        press(SHOWS, "<e as=\"side\" to=\"pqr\"/><i id=\"pqx\"/><e to=\"pqx\" as=\"side\"/><i id=\"pqr\"/>");
+        text("where", "belowabove");
         press(SHOWS + "h{show:block;step:p;form:letter;label:\"#) \";}page{lines:all;}b{count:yes;}",
                 "<h id=\"p\">Ti  tle</h><b>x</b><b id=\"q\">"
                 + "<e to=\"p\" as=\"page\"/> <e to=\"q\" as=\"line\"/> <e to=\"p\" as=\"number\"/> <e to=\"p\" as=\"title\"/> <e to=\"p\" as=\"side\"/>"
@@ -201,6 +209,8 @@ public final class TextTest {
         Desk.due("two ROUNDS", 2, desk.press.set(2));
         Desk.due("none wavers", 0, desk.press.count(10));
         Desk.dueThrow("wavering 0", Desk.INDEX, () -> desk.press.wavering(0));
+        press(SHOWS + "k{depth:1;}", "<b>x</b><c/><o><k>y</k></o><n><k/></n><m/>");
+        Desk.due("contents and index without rows do not waver", 1, desk.press.set(9));
         press(SHOWS + "page{width:10000;}", "<b id=\"p\">aa bb</b><b id=\"q\">cc</b>x<o of=\"q\"/>");
         Desk.due("LINES are 0, and so they are found", 1, desk.press.set(9));
         desk.source("<b id=\"p\">aa bb</b><b id=\"q\">cc</b>x<o of=\"p\"/>");
