@@ -110,7 +110,10 @@ public final class StyleTest {
         for (char c = 'a'; c < 'm'; c++) {
             counters.append(c % 2 == 0 ? "step:" : "reset:").append(c).append(';');
         }
-        Desk.due("12 COUNTERS", 1, desk.style(counters + "step:a;step:none;}"));
+        Desk.due("12 COUNTERS", 1, desk.style(counters + "step:a;step:none;step:l;}"));
+        desk.source("<a/><a/>");
+        Desk.due("the last COUNTER", 12, element(1, 15));
+        Desk.due("its VALUE", 2, desk.press.element(1, 5));
         desk.broken("style", counters + "step:m;}", counters.length() + 5);
     }
 

@@ -138,8 +138,9 @@ public final class TextTest {
         Desk.due("whose PARAGRAPH", 0, desk.press.paragraph(1, 6));
         press(SHOWS + "page{lines:all;}b{count:yes;}", "<b id=\"p\">x</b><b>y<o of=\"p\">b</o><o of=\"q\">c</o><o of=\"r\"/></b><n id=\"r\"/>");
         text("NOTES with LINES", "x|y123|1 1 b|2 ?? c|3 ??");
-        press(SHOWS + "o{size:20000;}s{size:5000;}", "<s>a<o>b</o></s>");
-        desk.press.set(1);
+        press(SHOWS, "<o of=\"\">b</o>");
+        text("of is the first FIELD", "1|1 ?? b");
+        press(SHOWS + "o{size:20000;}s{size:5000;}", "");
         desk.source("<s>a<o>b</o> c</s>");
         desk.press.set(1);
         Desk.due("the number has the size of the ELEMENT that the NOTE is in", 7500, desk.press.spot(0, 1));
