@@ -2938,6 +2938,8 @@ public final class ScholarsPress {
         static final int ALL_BUT_TOO_LONG = 10000;
         static final int ALL = 10001;
         static final int CLASSES = 4;
+        // what a line TOO LONG costs at least: its BADNESS and that it is so
+        static final long TOO_LONG_COST = 10010L * 10010L + 1000000000L;
 
         final byte[] worth;
         // of each BREAK and CLASS of the line that ends there
@@ -2946,6 +2948,8 @@ public final class ScholarsPress {
         // of the rows to a BREAK the best one, for each CLASS of a line that goes on from there
         final long[] leadCosts;
         final int[] leads;
+        // of the rows to the END the least cost so far
+        long endCost;
         final int[] row;
         int rowLength;
         // of the line that was weighed last
@@ -3072,6 +3076,7 @@ public final class ScholarsPress {
             // ahead of the first line stands one of CLASS 1
             costs[1] = 0;
             before[1] = -1;
+            endCost = NEVER;
             for (int from = 0; from < count; from++) {
                 if (findLeads(from)) {
                     goOn(texts, p, from, tolerance);
@@ -3119,8 +3124,9 @@ public final class ScholarsPress {
                 int kind = texts.breakAt[base + to] & 3;
                 int own = texts.breakWidth[base + to];
                 width = texts.breakAhead[base + to] - origin;
-                if (tolerance < ALL && width - shrink > room) {
-                    // without a - it is too long already, and so are all that go further
+                long over = width - shrink - room;
+                // without a - it is TOO LONG already, and so are all that go further: they cost no less
+                if (over > 0 && (tolerance < ALL || leadCosts[0] + TOO_LONG_COST + over >= endCost)) {
                     return;
                 }
                 width += kind == Texts.HYPHEN ? own : 0;
@@ -3130,6 +3136,7 @@ public final class ScholarsPress {
                 if (allowed && leadCosts[grade] + price < costs[state]) {
                     costs[state] = leadCosts[grade] + price;
                     before[state] = leads[grade];
+                    endCost = to == count ? Math.min(endCost, costs[state]) : endCost;
                 }
                 if (just && kind == Texts.GLUE) {
                     stretch += own / 2;
