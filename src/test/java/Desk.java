@@ -2,29 +2,47 @@ import java.util.NoSuchElementException;
 
 /** A press with texts instead of ints at its TAPE, and a count of the answers that were not due. */
 final class Desk {
+    /** A NAME for each way to show; i is told nothing. */
+    static final String SHOWS = "b{show:block;}n{show:note;}f{show:float;}t{show:table;}r{show:row;}c{show:cell;}"
+            + "k{show:contents;}x{show:index;}e{show:ref;}m{show:term;}h{show:none;}";
+
     private static int asked = 0;
     private static int wrong = 0;
+    private static String sentence = "";
 
     /** A call that may throw. */
     interface Call {
         long run();
     }
 
+    /** A call with a number that may be out of range. */
+    interface NumberCall {
+        long run(int number);
+    }
+
     final ScholarsPress press = new ScholarsPress();
+
+    /** The document's sentence that the next answers are due by. */
+    static void about(String words) {
+        sentence = words;
+    }
+
+    private static void tellWrong(String what) {
+        wrong++;
+        System.out.println((sentence.isEmpty() ? "" : "[" + sentence + "] ") + what);
+    }
 
     static void due(String call, long want, long got) {
         asked++;
         if (got != want) {
-            wrong++;
-            System.out.println(call + " answered " + got + ", due is " + want);
+            tellWrong(call + " answered " + got + ", due is " + want);
         }
     }
 
     static void due(String call, String want, String got) {
         asked++;
         if (!got.equals(want)) {
-            wrong++;
-            System.out.println(call + " answered\n" + got + "due is\n" + want);
+            tellWrong(call + " answered\n" + got + "\ndue is\n" + want);
         }
     }
 
@@ -39,8 +57,28 @@ final class Desk {
             }
             got = e.toString();
         }
-        wrong++;
-        System.out.println(call + " answered " + got + ", due is " + want.getSimpleName());
+        tellWrong(call + " answered " + got + ", due is " + want.getSimpleName());
+    }
+
+    /** The call must throw below low and above high, and nowhere else. */
+    static void dueRange(String call, int low, int high, Class<?> beyond, NumberCall body) {
+        for (int number : new int[] {Integer.MIN_VALUE, low - 1, high + 1, Integer.MAX_VALUE}) {
+            dueThrow(call + " " + number, beyond, () -> body.run(number));
+        }
+        for (int number : new int[] {low, high}) {
+            if (low <= high) {
+                dueNoThrow(call + " " + number, () -> body.run(number));
+            }
+        }
+    }
+
+    static void dueNoThrow(String call, Call body) {
+        asked++;
+        try {
+            body.run();
+        } catch (RuntimeException e) {
+            tellWrong(call + " threw " + e + ", due is an answer");
+        }
     }
 
     static void close(String name) {
@@ -50,17 +88,43 @@ final class Desk {
         }
     }
 
+    Desk() {
+    }
+
+    /** A press with a STYLE and a SOURCE. */
+    Desk(String style, String source) {
+        style(style);
+        source(source);
+    }
+
+    Desk set(int rounds) {
+        press.set(rounds);
+        return this;
+    }
+
     Desk tape(String text) {
         press.end(0);
-        byte[] bytes = new byte[(text.length() + 19) / 20 * 20];
-        for (int i = 0; i < text.length(); i++) {
+        int length = text.length();
+        byte[] bytes = new byte[Math.max(20, length)];
+        for (int i = 0; i < length; i++) {
             bytes[i] = (byte) text.charAt(i);
         }
-        for (int i = 0; i < bytes.length; i += 20) {
-            press.feed(at(bytes, i), at(bytes, i + 4), at(bytes, i + 8), at(bytes, i + 12), at(bytes, i + 16));
+        for (int i = 0; i + 20 <= length; i += 20) {
+            feed(bytes, i);
         }
-        press.end(text.length());
+        if (length < 20) {
+            feed(bytes, 0);
+            press.end(length);
+        } else if (length % 20 > 0) {
+            // the last 20 bytes, so that a text may fill the TAPE
+            press.end(length - 20);
+            feed(bytes, length - 20);
+        }
         return this;
+    }
+
+    private void feed(byte[] bytes, int i) {
+        press.feed(at(bytes, i), at(bytes, i + 4), at(bytes, i + 8), at(bytes, i + 12), at(bytes, i + 16));
     }
 
     private static int at(byte[] b, int i) {
@@ -127,8 +191,76 @@ final class Desk {
         due(kind + " leaves the TAPE empty", 0, tapeLength());
     }
 
+    /** One answer for each ELEMENT, with blanks between. */
+    String elements(int what) {
+        StringBuilder got = new StringBuilder();
+        for (int e = 0; e < press.count(0); e++) {
+            got.append(e > 0 ? " " : "").append(press.element(e, what));
+        }
+        return got.toString();
+    }
+
+    /** One answer for each line of FLOW, with blanks between. */
+    String lines(int what) {
+        StringBuilder got = new StringBuilder();
+        for (int l = 0; l < press.count(5); l++) {
+            got.append(l > 0 ? " " : "").append(press.line(l, what));
+        }
+        return got.toString();
+    }
+
+    /** One answer for each PARAGRAPH, with blanks between. */
+    String paragraphs(int what) {
+        StringBuilder got = new StringBuilder();
+        for (int p = 0; p < press.count(6); p++) {
+            got.append(p > 0 ? " " : "").append(press.paragraph(p, what));
+        }
+        return got.toString();
+    }
+
+    /** Where the WORDS of a line begin, with blanks between. */
+    String spots(int l) {
+        StringBuilder got = new StringBuilder();
+        for (int w = 0; w < 1000; w++) {
+            try {
+                got.append(w > 0 ? " " : "").append(press.spot(l, w));
+            } catch (IndexOutOfBoundsException e) {
+                break;
+            }
+        }
+        return got.toString().trim();
+    }
+
+    /** The texts of a page, without its HEAD and where they stand, with | between. */
+    String texts(int n) {
+        StringBuilder got = new StringBuilder();
+        String[] rows = page(n).split("\n");
+        for (int k = 1; k < rows.length; k++) {
+            got.append(k > 1 ? "|" : "").append(rows[k].replaceFirst("^-?\\d+ (\\d+ )?", ""));
+        }
+        return got.toString();
+    }
+
+    /** The texts of all pages, with || between. */
+    String texts() {
+        StringBuilder got = new StringBuilder();
+        for (int n = 1; n <= press.count(3); n++) {
+            got.append(n > 1 ? "||" : "").append(texts(n));
+        }
+        return got.toString();
+    }
+
     /** How long the TAPE is, found without changing it. */
     int tapeLength() {
+        try {
+            int length = press.feed(0, 0, 0, 0, 0) - 20;
+            return press.end(length);
+        } catch (IndexOutOfBoundsException e) {
+            return fullTapeLength();
+        }
+    }
+
+    private int fullTapeLength() {
         for (int n = 16384; n > 0; n--) {
             try {
                 return press.end(n);
