@@ -363,9 +363,8 @@ public final class Terms8ColumnsTest {
 
     private static void leastLine() {
         Desk.about("Of all rows of columns that of the least cost in all; of several the one whose last column of lines begins with the least line");
-        String words = "a ".repeat(505);
         desk = new Desk("page{width:10000;height:1000000;}b{show:block;lead:1000;first:1;last:1;}",
-                "<!q \"" + words.replace("a", "aa") + "\"><b>&q;</b><b>&q;</b>");
+                "<!q \"" + "aa ".repeat(505) + "\"><b>&q;</b><b>&q;</b>");
         desk.press.set(1);
         Desk.due("lines", 1010, desk.press.count(5));
         // 991 lines leave 9000 of 1000000: 0 hundredths
