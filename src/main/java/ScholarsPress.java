@@ -1827,13 +1827,12 @@ public final class ScholarsPress {
         static final int ID = 5;
         static final int TARGET = 6;
         static final int AS = 7;
-        static final int NUMBER = 8;
-        static final int CELLS = 9;
-        static final int ENTRY_FIELD = 10;
-        static final int NEXT_TERM = 11;
-        static final int LAST_TERM = 12;
-        static final int AROUND = 13;
-        static final int FACTS = 14;
+        static final int CELLS = 8;
+        static final int ENTRY_FIELD = 9;
+        static final int NEXT_TERM = 10;
+        static final int LAST_TERM = 11;
+        static final int AROUND = 12;
+        static final int FACTS = 13;
         // what a REFERENCE is; 0 for ??
         static final int AS_PAGE = 1;
         static final int AS_LINE = 2;
@@ -1886,11 +1885,8 @@ public final class ScholarsPress {
                 tellBody(k);
             }
             inherit();
-            int notes = 0;
             for (int e = 0; e < source.elements; e++) {
                 castPart(e);
-                notes += fact(e, PART) == NOTE ? 1 : 0;
-                facts[e * FACTS + NUMBER] = notes;
             }
             countValues();
             for (int e = 0; e < source.elements; e++) {

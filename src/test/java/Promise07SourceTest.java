@@ -4,6 +4,7 @@ public final class Promise07SourceTest {
 
     public static void main(String[] args) {
         theTape();
+        nothingOfTheOneBefore();
         theOneBeforeStays();
         answers();
         Desk.close("Promise07SourceTest");
@@ -27,6 +28,24 @@ public final class Promise07SourceTest {
         Desk.due("an empty one", 0, desk.press.count(2));
         Desk.due("is a SOURCE", 1, desk.press.set(1));
         Desk.due("of no lines", 0, desk.press.count(5));
+    }
+
+    private static void nothingOfTheOneBefore() {
+        Desk.about("The TAPE is the SOURCE (and nothing of one before is)");
+        desk = new Desk("*:empty{depth:3;}", "");
+        for (int again = 0; again < 3; again++) {
+            desk.source("<a>x<b/></a><c>y</c>");
+            Desk.due("those that are empty", "0 3 0", desk.elements(39));
+            desk.source("<a/><b/><c/>");
+            desk.source("<a/><b/><c/>");
+            Desk.due("all are empty", "3 3 3", desk.elements(39));
+        }
+        desk.source("<a p=\"1\" q=\"\"/>".repeat(2) + "<b id=\"z\"/>");
+        desk.source("<a/>");
+        desk.source("<a/>");
+        Desk.due("FIELDS", 0, desk.press.element(0, 3));
+        desk.press.set(1);
+        Desk.dueThrow("an ID of one before", Desk.NONE, () -> desk.where("z", 0));
     }
 
     private static void theOneBeforeStays() {

@@ -22,6 +22,9 @@ public final class Promise10SetTest {
         inThisOrder();
         inALaterRound();
         whatWasSetStays();
+        again();
+        behindAThrow();
+        fiveHundred();
         answers();
         Desk.close("Promise10SetTest");
     }
@@ -292,6 +295,58 @@ public final class Promise10SetTest {
         stays(page);
         Desk.dueThrow("a number out of range", Desk.ARGUMENT, () -> desk.press.set(0));
         stays(page);
+    }
+
+    /** Rounds and sets leave nothing behind, if they threw, too. */
+    private static void again() {
+        Desk.about("The SOURCE is SET by STYLE, FONT, HYPHENS as they are (and by nothing that was before)");
+        // beside 1 there is no room, beside 0 and 2 there is: p is on page 2, on page 1, and so on
+        desk = new Desk("page{width:10000;height:12000;}" + Desk.SHOWS + "*{first:1;last:1;lead:1000;}b:first{lead:12000;}c{size:1000;}",
+                "<!q \"" + "aa ".repeat(500) + "\"><b><e to=\"p\" as=\"page\"/> <i id=\"p\">x</i></b><b>&q;</b><b>&q;</b>"
+                + "<t>" + "<r><c>a-b-c-d-e-f-g-h-i-j-k-l-m-n-o-p-q-r-s-t</c></r>".repeat(100) + "</t>");
+        desk.font("width\"0\"0;width\"2\"0;width\"1\"800;");
+        for (int n = 0; n < 6; n++) {
+            Desk.due("nine ROUNDS of 3000 BREAKS and 100 rows each", -9, desk.press.set(9));
+            Desk.due("lines", 1101, desk.press.count(5));
+            Desk.due("the first line", "2 x", desk.texts(1));
+        }
+    }
+
+    private static void behindAThrow() {
+        Desk.about("(What was SET before stays then.) And what is SET next is SET as ever.");
+        StringBuilder terms = new StringBuilder("a");
+        for (int k = 0; k < 301; k++) {
+            terms.append("<m at=\"").append(k).append("\"/>");
+        }
+        desk = new Desk(WIDE + "b{left:5000;right:600;above:70;}", terms.toString());
+        Desk.dueThrow("301 ENTRIES", Desk.INDEX, () -> desk.press.set(1));
+        desk.source("a<m>b</m>");
+        Desk.due("one ENTRY", 1, desk.press.set(1));
+        desk.source("<b>x <b>" + "<f/>".repeat(41) + "</b></b>");
+        Desk.dueThrow("41 floats, within BLOCKS", Desk.INDEX, () -> desk.press.set(1));
+        desk.source("a<b>b</b>");
+        Desk.due("set", 1, desk.press.set(1));
+        Desk.due("widths", "1000000 994400", desk.paragraphs(4));
+        Desk.due("where they begin", "0 5000", desk.lines(6));
+        desk = new Desk(NARROW + "page{height:10000;rule:2000;}f{height:3000;}", waysSource(338, 556));
+        Desk.dueThrow("20001 ways", Desk.INDEX, () -> desk.press.set(1));
+        desk.source("<b>aa</b><f/><f/><b>bb</b><b>c<n>x</n></b>");
+        Desk.due("set", 1, desk.press.set(1));
+        Desk.due("floats", 2, desk.press.count(8));
+        desk.source("<b>aa</b><b>bb</b><b>cc</b>");
+        Desk.due("set", 1, desk.press.set(1));
+        Desk.due("nothing of floats and NOTES before", "0 1000 2000", desk.lines(1));
+        Desk.due("columns", 1, desk.press.count(4));
+    }
+
+    private static void fiveHundred() {
+        Desk.about("The SOURCE is SET (of 500 ELEMENTS, too)");
+        fits("500 tables", WIDE, "<t/>".repeat(500));
+        fits("500 inline ones", WIDE, "<i>a</i>".repeat(500));
+        fits("contents of 499", WIDE + "i{depth:1;}", "<k/>" + "<i>a</i>".repeat(499));
+        Desk.due("lines", 500, desk.press.count(5));
+        fits("249 rows", WIDE, "<t>" + "<r><c>a</c></r>".repeat(249) + "</t><b>b</b>");
+        Desk.due("lines", 250, desk.press.count(5));
     }
 
     private static void stays(String page) {

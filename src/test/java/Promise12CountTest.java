@@ -8,6 +8,7 @@ public final class Promise12CountTest {
         ofWhatIsSet();
         newOnes();
         whatIsTheSame();
+        otherBreaks();
         Desk.close("Promise12CountTest");
     }
 
@@ -92,6 +93,18 @@ public final class Promise12CountTest {
         desk.source(source);
         desk.press.set(1);
         Desk.due(call, due, desk.press.count(11));
+    }
+
+    private static void otherBreaks() {
+        Desk.about("(the same bytes, sizes, BREAKS and width)");
+        desk = new Desk("b{show:block;hyphens:yes;}", "<b>aaaa</b>");
+        String[] hyphens = {"ends 11 =a-aaa", "ends 11 =aaa-a", "ends 11 =aaa-a", "ends 11 =a-aa-a", "ends 11 =a-a-aa"};
+        int[] due = {1, 1, 0, 1, 1};
+        for (int k = 0; k < hyphens.length; k++) {
+            desk.hyphens(hyphens[k]);
+            desk.press.set(1);
+            Desk.due("BREAKS by " + hyphens[k], due[k], desk.press.count(11));
+        }
     }
 
     private static void whatIsTheSame() {

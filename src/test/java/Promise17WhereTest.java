@@ -46,6 +46,10 @@ public final class Promise17WhereTest {
         for (String id : new String[] {"p", "r", "u", "v"}) {
             Desk.dueNoThrow("where " + id, () -> desk.where(id, 0));
         }
+        desk.source("<i id=\"p\"/>".repeat(500));
+        desk.press.set(1);
+        Desk.dueThrow("of 500 ELEMENTS none", Desk.NONE, () -> desk.where("q", 0));
+        Desk.due("the first of 500", 0, desk.where("p", 0));
     }
 
     private static void withoutLines() {

@@ -46,6 +46,13 @@ public final class Promise20PrintTest {
         press("page{height:12000;columns:4;gap:100000;}", "<b>a</b>".repeat(5));
         Desk.due("four columns", "1 \n0 0 a\n0 110000 a\n0 220000 a\n0 330000 a\n", desk.page(1));
         Desk.due("the last page", "2 \n0 0 a\n", desk.page(2));
+        for (int again = 0; again < 2; again++) {
+            press("page{height:12000;columns:4;}", "<b>a</b>".repeat(8));
+            desk.press.set(1);
+            desk.source("<b>b</b>".repeat(5));
+            desk.press.set(1);
+            Desk.due("no column of one SET before", "2 \n0 0 b\n", desk.page(2));
+        }
         press("page{height:12000;columns:2;}f{height:12000;}", "<b>a</b><f/><f/>");
         Desk.due("a column of a float alone", "1 \n0 0 a\n0 =\n", desk.page(1));
         Desk.due("a page of one", "2 \n0 =\n", desk.page(2));

@@ -62,6 +62,10 @@ public final class Terms2StyleTest {
         fits(nine, "a>a>a>a>a>a>a>a", "000000011");
         fits(nine, "a/a/a/a/a/a/a/a", "000000011");
         fits("<a/>".repeat(9), "a+a+a+a+a+a+a+a", "000000011");
+        desk = new Desk();
+        for (int again = 0; again < 7; again++) {
+            Desk.due("as many in each STYLE", 60, desk.style("a>a>a>a>a>a>a>a,".repeat(59) + "a>a>a>a>a>a>a>a{}"));
+        }
     }
 
     private static void brackets() {
@@ -344,6 +348,14 @@ public final class Terms2StyleTest {
         broken(twelve + "}b{reset:m;}", twelve.length() + 9);
         broken("a{step:1;}", 7);
         broken("a{reset:\"x\";}", 8);
+        desk = new Desk("", "<a/>");
+        for (int again = 0; again < 3; again++) {
+            desk.style("a{reset:x;step:y;}");
+            Desk.due("the second of this STYLE", 2, desk.press.element(0, 35));
+            desk.style("a{step:z;}");
+            desk.style("a{step:w;}");
+            Desk.due("the first of this STYLE", 1, desk.press.element(0, 35));
+        }
         desk = new Desk("a{step:x;step:y;}", "<a/>");
         Desk.due("one that was told first, and not last, has its number, too", 2, desk.press.element(0, 35));
     }
@@ -391,6 +403,10 @@ public final class Terms2StyleTest {
         for (String wrong : new String[] {"size", "lead", "show", "left", "line", "above"}) {
             broken("page{" + wrong + ":10000;}", 5);
         }
+        broken("page{width:;}", 11);
+        broken("page{width;}", 10);
+        broken("page{lines:;}", 11);
+        broken("page{lines;}", 10);
         broken("page", 4);
         broken("page{", 5);
         broken("page;", 4);

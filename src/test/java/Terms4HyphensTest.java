@@ -112,6 +112,17 @@ public final class Terms4HyphensTest {
         places("ends 22 a1a ends 11", "aaaa", "a-a-a-a");
         places("=a-a-a-a-a-a", "aaaaaa", "aa-a-aaa");
         places("ends 42 =a-a-a-a-a-a", "aaaaaa", "aaaa-aa");
+        Desk.about("(2 and 3 without)");
+        desk = new Desk("b{show:block;hyphens:yes;}", "<b>aaaaa</b>");
+        for (int again = 0; again < 3; again++) {
+            desk.hyphens("ends 11 a1a");
+            desk.press.set(1);
+            Desk.due("BREAKS by ends 11", 5, desk.press.paragraph(0, 2));
+            desk.hyphens("a1a");
+            desk.hyphens("a1a");
+            desk.press.set(1);
+            Desk.due("BREAKS without ends", 2, desk.press.paragraph(0, 2));
+        }
     }
 
     private static void exceptions() {
@@ -208,6 +219,8 @@ public final class Terms4HyphensTest {
         places("ends 11 a1bb .ab1b", "abb", "a-b-b");
         places("ends 11 =a-bc =ab-c", "abc", "ab-c");
         places("ends 11 =a-bc =abc a1b", "abc", "abc");
+        places("ends 11 a1b a1b cd", "cdab", "cda-b");
+        places("ends 11 1a1b1 1a1b1 cd", "cdcd", "cdcd");
     }
 
     private static void placesOfExceptions() {
@@ -241,5 +254,10 @@ public final class Terms4HyphensTest {
         places("ends 11 abcdefghijk1l", "abcdefghijkl", "abcdefghijk-l");
         places("ends 11 a1b", "AbaB", "A-ba-B");
         Desk.due("a row of 40 letters", 39, placeCount("ends 11 a1a", "a".repeat(40)));
+        places("ends 11 a1z z1a", "AZAZ", "A-Z-A-Z");
+        Desk.due("a . at the end of each row, and two GLUES", 5, placeCount("ends 11 a1b.", "ab x,ab ab"));
+        Desk.due("a . at the beginning of each row, and two GLUES", 5, placeCount("ends 11 .a1b", "ab x,ab aba"));
+        Desk.due("no PLACE behind the last letter", 1, placeCount("ends 11 b1", "ab, ab!"));
+        Desk.due("no PLACE ahead of the first letter", 1, placeCount("ends 11 1a", ",ab !ab"));
     }
 }

@@ -105,6 +105,10 @@ public final class Terms5TextTest {
         Desk.due("500", 500, desk.press.element(499, 5));
         desk.style("a{reset:p;}");
         Desk.due("reset alone has no VALUE", 0, desk.press.element(499, 5));
+        press("a{step:p;}", "<a/><a/>");
+        Desk.due("VALUES", "1 2", desk.elements(5));
+        desk.style("a{step:p;}");
+        Desk.due("VALUES by a STYLE anew", "1 2", desk.elements(5));
     }
 
     /** The LABEL of an ELEMENT with that VALUE. */
@@ -122,6 +126,7 @@ public final class Terms5TextTest {
         form("arabic", 9, "9");
         form("arabic", 10, "10");
         form("arabic", 500, "500");
+        longNumber();
         form("roman", 0, "0");
         String[] romans = {"1 i", "3 iii", "4 iv", "5 v", "9 ix", "10 x", "40 xl", "49 xlix", "50 l", "88 lxxxviii", "90 xc", "99 xcix", "100 c",
             "388 ccclxxxviii", "400 cd", "444 cdxliv", "499 cdxcix", "500 d"};
@@ -133,6 +138,13 @@ public final class Terms5TextTest {
         for (String letter : letters) {
             form("letter", Integer.parseInt(letter.split(" ")[0]), letter.split(" ")[1]);
         }
+    }
+
+    private static void longNumber() {
+        desk = new Desk("page{width:20000;height:1000000;lines:all;}" + Desk.SHOWS + "b{lead:1000;count:yes;}d{show:block;}",
+                "<!q \"" + "aaaa ".repeat(411) + "\"><b>&q;</b><b>&q;</b><b>&q;</b><b id=\"p\">x</b><d><e to=\"p\" as=\"line\"/></d>");
+        desk.press.set(9);
+        Desk.due("four digits", "1234", desk.texts().substring(desk.texts().length() - 4));
     }
 
     private static void labels() {
@@ -193,6 +205,9 @@ public final class Terms5TextTest {
         text("", "a<b>b<b>c</b>d</b>e", "a|b|c|d|e");
         Desk.due("whose they are", "-1 0 1 0 -1", desk.paragraphs(6));
         text("", "a<i>b<b>c</b>d</i>e", "ab|c|de");
+        Desk.due("whose they are", "-1 1 -1", desk.paragraphs(6));
+        text("", "<b><i>b<b>c</b>d</i>e</b>", "b|c|de");
+        Desk.due("whose they are", "0 2 0", desk.paragraphs(6));
         text("", "a<k/>b<x/>c<t/>d", "a|b|c|d");
         text("", "a<f/>b<h>c</h>d", "=|abd");
         text("b{label:\"L\";}", "<b> </b><b/>", "L|L");
@@ -204,6 +219,9 @@ public final class Terms5TextTest {
         Desk.about("in a NOTE: its number, a blank, if it has a FIELD of: the LINES of that ID and a blank, then LABEL and text");
         text("", "<n/>", "1|1");
         text("", "<n> </n>", "1|1");
+        press("n{size:20000;align:right;label:\"L\";}i{size:5000;}", "a<n>x<i>y</i></n>");
+        // number, blank, LABEL and x in the NOTE's size
+        Desk.due("in its size", "1 \n0 0 a1\n988000 " + (300000 - 4 * 10000 - 2500) + " 1 Lxy\n", desk.set(1).page(1));
         text("", "<n>x</n>", "1|1 x");
         text("n{label:\" L\";}", "<n> x</n>", "1|1 L x");
         text("", "<n of=\"p\"/>", "1|1 ??");
@@ -296,6 +314,7 @@ public final class Terms5TextTest {
         title("", "<i>a<e>b</e><f>c</f><k>d</k><x>e</x></i>", 1);
         title("", "<t>a<r>b<c>cd</c>e<i>f</i></r></t>", 2);
         title("", "<b>a<b>b</b>c</b>", 3);
+        title("", "<i>&lt;<!q \"xyz\">&q;&q;</i>", 7);
         Desk.about("blanks as told, the first 40 bytes of that, no blank at the end");
         title("", "<i> a \n b </i>", 3);
         title("", "<i> <i> </i></i>", 0);

@@ -29,6 +29,7 @@ public final class Terms7LinesTest {
         tableColumns();
         tableWidths();
         tableRests();
+        severalTables();
         tableRows();
         Desk.close("Terms7LinesTest");
     }
@@ -228,7 +229,9 @@ public final class Terms7LinesTest {
         press("", font("a", 5000, "b", 1), "aab");
         Desk.due("by 1", TOO_LONG + 1, desk.press.paragraph(0, 0));
         press("", font("a", 5000, "z", 5000), "aaz z");
-        Desk.due("a line TOO LONG is of CLASS 0", TOO_LONG + 5000 + 100, desk.judge(0, "1"));
+        Desk.due("a line TOO LONG is of CLASS 0 or 1", TOO_LONG + 5000 + 100, desk.judge(0, "1"));
+        press("", font(" ", 3000, "x", 5000, "a", 3000, "b", 2800, "e", 5000), "xxx a b ee");
+        Desk.due("a line TOO LONG is of CLASS 0: one of 800 is of CLASS 2", TOO_LONG + 5000 + 3721 + 10000 + 100, desk.judge(0, "1 3"));
         press("b{align:left;}", font(" ", 300, "a", 5000), "aa a");
         Desk.due("not just: Z is 0; both in one line", -1, desk.judge(0, ""));
         press("b{align:left;}", font(" ", 300, "a", 5000), "aaa a");
@@ -323,6 +326,18 @@ public final class Terms7LinesTest {
         Desk.due("as dear", 300, desk.judge(0, "2 5"));
         Desk.due("as dear", 300, desk.judge(0, "3 5"));
         Desk.due("the least", "2 5 6", desk.lines(5));
+        ofDifferentClasses();
+    }
+
+    /** Lines to the same BREAK of CLASS 0 and 2, of the same BADNESS. */
+    private static void ofDifferentClasses() {
+        // a b misses 300, a b c has 200 too much; then c q r has 209 too much of 416: 503; q r misses 291 of 575: 506
+        desk = new Desk(FINE + "s{size:30000;}u{size:11500;}", "<b>a<s> </s>b c q<u> </u>r dd</b>");
+        desk.font(font(" ", 100, "a", 3000, "b", 3700, "c", 400, "d", 5000, "q", 4279, "r", 4280));
+        desk.press.set(1);
+        Desk.due("c q r", 484 + 200, desk.judge(0, "2 5"));
+        Desk.due("q r", 484 + 200, desk.judge(0, "3 5"));
+        Desk.due("the least", "2 5 6", desk.lines(5));
     }
 
     private static void moved() {
@@ -343,6 +358,8 @@ public final class Terms7LinesTest {
         Desk.due("by their stretch", "0 5666 9000", desk.spots(0));
         press("", font(" ", 1, "a", 4000, "c", 5000), "a a cc");
         Desk.due("no stretch at all", "0 4001", desk.spots(0));
+        press("", font(" ", 2, "a", 4000, "c", 5000), "a a cc");
+        Desk.due("a stretch of 1", "0 6000", desk.spots(0));
     }
 
     private static void movedBack() {
@@ -430,6 +447,13 @@ public final class Terms7LinesTest {
         cells("page{width:10000;}", parted, "3334 3333 3333");
         String eight = "<t><r>" + "<c>a</c>".repeat(8) + "</r></t>";
         cells("page{width:10007;}", eight, "1251 1251 1251 1251 1251 1251 1251 1250");
+    }
+
+    private static void severalTables() {
+        Desk.about("W: the table's width (6) (each table by itself)");
+        cells("page{height:48000;}t{left:1000;}t:last{left:4000;keep:yes;}",
+                "<t><r><c>a</c><c>a</c></r><r><c>aa</c></r></t><t><r><c>aaa</c><c>a</c><c>a</c></r></t>", "5000 4000 5000 3334 1333 1333");
+        Desk.due("where they begin", "1000 1000 4000", desk.lines(6));
     }
 
     private static void tableRows() {

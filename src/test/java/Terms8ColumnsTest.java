@@ -20,6 +20,7 @@ public final class Terms8ColumnsTest {
         hyphenAtTheEnd();
         restAlone();
         leastLine();
+        aheadOfTheSameLine();
         noRow();
         pages();
         places();
@@ -138,6 +139,7 @@ public final class Terms8ColumnsTest {
         lines("", "<b><i id=\"p\">aa</i> bb</b>", 0, 0);
         lines("", "<b>aa <i id=\"p\">bb</i></b>", 1, 1);
         lines("", "<b>aa<i id=\"p\"> bb</i></b>", 1, 1);
+        lines("b{size:20000;}", "<b>a<i id=\"p\"> -b</i></b>", 1, 2);
         lines("", "<b>aa<i id=\"p\"/> bb</b>", 1, 1);
         lines("", "<b>aa<i id=\"p\"> </i>bb</b>", 1, 1);
         lines("", "<b>a<i id=\"p\"/>a bb</b>", 0, 0);
@@ -160,6 +162,7 @@ public final class Terms8ColumnsTest {
         Desk.about("In an ELEMENT are the bytes of FLOW (but blanks; those of cells in their row) that stand for its text, LABEL, number (NOTE), REFERENCE or rows (contents, index), and for those of ELEMENTS in it; it ends in the line of the last byte in it, else where it begins.");
         lines("", "<b id=\"p\">aa bb cc</b><b>dd</b>", 0, 2);
         lines("", "<b>aa <i id=\"p\">bb cc </i>dd</b>", 1, 2);
+        lines("page{width:15000;}", "<b><i id=\"p\">aa-b</i></b>", 0, 1);
         lines("", "aa<i id=\"p\"> <b>bb</b> <b>cc</b> </i>dd", 1, 2);
         lines("d{label:\"LL\";}", "aa <d id=\"p\"/> bb", 1, 1);
         lines("d{label:\"LL MM\";}", "aa <d id=\"p\"/> bb", 1, 2);
@@ -339,6 +342,16 @@ public final class Terms8ColumnsTest {
         desk = new Desk("page{width:20000;height:100000;}b{show:block;lead:20000;first:1;last:1;tolerance:10000;}",
                 "<b>" + "cccc ".repeat(4) + "aaa-bbbb cccc</b>").set(1);
         Desk.due("a DASH is none", "0 0 0 0 0 1 1", desk.lines(0));
+        // five lines, the last with a HYPHEN, and five; or four, five and one: as dear, but the last column begins later
+        desk = new Desk("page{width:20000;height:100000;}b{show:block;lead:20000;hyphens:yes;first:1;last:1;tolerance:10000;}",
+                "<b>" + "cccc ".repeat(4) + "aaabbbb" + " cccc".repeat(4) + "</b>");
+        desk.hyphens("ends 11 a1b");
+        desk.press.set(1);
+        Desk.due("400, and no more", "0 0 0 0 0 1 1 1 1 1", desk.lines(0));
+        desk = new Desk("page{width:20000;height:100000;}" + Desk.SHOWS + "*{lead:20000;}b{first:1;last:1;}",
+                "<b>" + "cccc ".repeat(4) + "</b><t><r><c>dddd</c></r></t><b>cccc cccc</b>");
+        desk.press.set(1);
+        Desk.due("a row has none", "0 0 0 0 0 1 1", desk.lines(0));
     }
 
     private static void restAlone() {
@@ -385,6 +398,25 @@ public final class Terms8ColumnsTest {
         for (int k = 0; k < lines.length; k++) {
             Desk.due("column of line " + lines[k], due[k], desk.press.line(lines[k], 0));
         }
+    }
+
+    /** Blocks of so many lines that are not parted, ten lines in a column, and a float; all ways to stand. */
+    private static void unparted(String height, String due, int... sizes) {
+        StringBuilder source = new StringBuilder();
+        for (int k = 0; k < sizes.length; k++) {
+            source.append("<b>").append(sizes[k] < 0 ? "<f/>" : "").append("aa ".repeat(Math.abs(sizes[k]))).append("</b>");
+        }
+        desk = new Desk("page{width:10000;height:100000;}" + Desk.SHOWS + "b{lead:10000;first:9;last:9;}f{height:" + height + ";}", source.toString());
+        desk.press.set(1);
+        Desk.due("columns", due, desk.lines(0).replace(" ", ""));
+    }
+
+    private static void aheadOfTheSameLine() {
+        Desk.about("then the one before that, and so on (where floats are placed in different columns)");
+        // 5 and the float, 9, 6: 100, 100, 1600; 7, 7, 6 and the float: 900, 900, 0
+        unparted("40000", "0000011111111122222233333", -5, 2, 7, 6, 5);
+        // 5, 9, 5 and the float: 2500, 100, 900; 7 and the float, 7, 5: 100, 900, 2500
+        unparted("20000", "0000011111111122222333333", 5, -2, 7, 5, 6);
     }
 
     private static void noRow() {
@@ -463,6 +495,7 @@ public final class Terms8ColumnsTest {
         heads("", "<b>aa</b><b>bb</b>", "1 |2 |");
         heads("", "<b>aa</b><d>bb</d><b>cc</b>", "1 |2 bb|3 bb|");
         heads("", "<d>aa</d><d>bb</d>", "1 aa|2 bb|");
+        heads("i{head:yes;}", "<i>a</i><i>b</i>", "1 a|");
         heads("i{head:yes;}", "<b><i>a</i><i>b</i></b><b>cc</b><b>dd</b>", "1 a|2 b|3 b|");
         heads("", "<d>aa</d><d/><b>bb</b>", "1 aa|2 |");
         heads("h{head:yes;}n{head:yes;lead:1000;}page{height:30000;}", "<b>aa</b><h>x</h><b>bb</b><b>c<n>yy</n></b>", "1 |2 yy|");

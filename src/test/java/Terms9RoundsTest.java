@@ -89,6 +89,11 @@ public final class Terms9RoundsTest {
         text("", "<h id=\"p\">x</h><i id=\"p\">y</i><n of=\"p\"/>", "y1|1 ??");
         press("", "<i id=\"p\">x</i><e to=\"q\" as=\"page\"/><e to=\"p\"/>");
         Desk.due("?? is SETTLED at once", 1, desk.press.set(9));
+        press("", "<i id=\"p\">x</i><e to=\"p\" as=\"title\"/>");
+        Desk.due("a TITLE", "xx", desk.set(9).texts());
+        desk.source("<i id=\"p\">x</i><e to=\"p\"/>");
+        Desk.due("as is gone", "x??", desk.set(9).texts());
+        text("", "<e to=\"q\" as=\"page\"/>" + "<i/>".repeat(499), "??");
     }
 
     private static void side() {
