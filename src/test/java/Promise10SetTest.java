@@ -337,6 +337,27 @@ public final class Promise10SetTest {
         Desk.due("set", 1, desk.press.set(1));
         Desk.due("nothing of floats and NOTES before", "0 1000 2000", desk.lines(1));
         Desk.due("columns", 1, desk.press.count(4));
+        Desk.due("text", "aa|bb|cc", desk.texts());
+        otherColumns();
+    }
+
+    private static void otherColumns() {
+        desk = new Desk("page{width:20000;height:100000;rule:0;columns:4;}" + Desk.SHOWS + "*{lead:20000;first:1;last:1;hyphens:yes;tolerance:10000;}", "");
+        desk.hyphens("ends 11 a1b");
+        for (int again = 0; again < 3; again++) {
+            for (int twice = 0; twice < 2; twice++) {
+                desk.source("<b>" + "aaabbbb ".repeat(6) + "</b>");
+                desk.press.set(1);
+                Desk.due("twelve lines", 12, desk.press.count(5));
+            }
+            desk.source("x<n>" + "yyyy ".repeat(7) + "</n>");
+            desk.press.set(1);
+            Desk.due("a REST alone", "x1|1" + "|yyyy".repeat(7), desk.texts());
+            Desk.due("columns", 2, desk.press.count(4));
+            desk.source("<b>cccc cccc cccc cccc</b><t><r><c>d</c></r></t><b>cccc cccc</b>");
+            desk.press.set(1);
+            Desk.due("a row has no HYPHEN, though a line before had", "0 0 0 0 0 1 1", desk.lines(0));
+        }
     }
 
     private static void fiveHundred() {
