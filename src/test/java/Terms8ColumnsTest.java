@@ -21,6 +21,7 @@ public final class Terms8ColumnsTest {
         restAlone();
         leastLine();
         aheadOfTheSameLine();
+        allRows();
         noRow();
         pages();
         places();
@@ -417,6 +418,73 @@ public final class Terms8ColumnsTest {
         unparted("40000", "0000011111111122222233333", -5, 2, 7, 6, 5);
         // 5, 9, 5 and the float: 2500, 100, 900; 7 and the float, 7, 5: 100, 900, 2500
         unparted("20000", "0000011111111122222333333", 5, -2, 7, 5, 6);
+    }
+
+    /** All rows of columns of some blocks that are not parted, ten lines in a column, some with a float ahead. */
+    private static final class AllRows {
+        private final int[] sizes;
+        private final int[] floats;
+        private int least = -1;
+        private String best;
+
+        AllRows(int[] sizes, int[] floats) {
+            this.sizes = sizes;
+            this.floats = floats;
+            go(0, 0, "", 0);
+        }
+
+        /** begins tells where the columns begin, the last one first, a sign for each. */
+        private void go(int from, int placed, String begins, int cost) {
+            if (from == sizes.length) {
+                if (least < 0 || cost < least || (cost == least && begins.compareTo(best) < 0)) {
+                    least = cost;
+                    best = begins;
+                }
+                return;
+            }
+            int used = 0;
+            for (int to = from; to < sizes.length && used + sizes[to] <= 10; to++) {
+                used += sizes[to];
+                int full = used;
+                int now = placed;
+                boolean fitting = true;
+                for (int k = placed; k <= to && fitting; k++) {
+                    fitting = full + floats[k] <= 10;
+                    full += fitting ? floats[k] : 0;
+                    now += fitting ? 1 : 0;
+                }
+                int left = 10 * (10 - full);
+                go(to + 1, now, (char) ('A' + from) + begins, cost + (to == sizes.length - 1 ? 0 : left * left));
+            }
+        }
+    }
+
+    private static void allRows() {
+        Desk.about("Of all rows of columns that of the least cost in all; of several the one whose last column of lines begins with the least line, then the one before that, and so on.");
+        int seed = 3;
+        for (int n = 0; n < 300; n++) {
+            int[] sizes = new int[5 + n % 6];
+            int[] floats = new int[sizes.length];
+            StringBuilder source = new StringBuilder();
+            StringBuilder style = new StringBuilder();
+            for (int k = 0; k < sizes.length; k++) {
+                seed = seed * 1103515245 + 12345;
+                sizes[k] = 1 + (seed >>> 16) % 6;
+                floats[k] = (seed >>> 20) % 3 == 0 ? 1 + (seed >>> 24) % 7 : 0;
+                source.append("<b><f z=\"").append(k).append("\"/>").append("aa ".repeat(sizes[k])).append("</b>");
+                style.append("f[z=\"").append(k).append("\"]{height:").append(10000 * floats[k]).append(";}");
+            }
+            desk = new Desk("page{width:10000;height:100000;}" + Desk.SHOWS + "b{lead:10000;first:9;last:9;}" + style, source.toString());
+            desk.press.set(1);
+            StringBuilder begins = new StringBuilder();
+            int line = 0;
+            for (int k = 0; k < sizes.length; k++) {
+                boolean begin = line == 0 || desk.press.line(line, 0) != desk.press.line(line - 1, 0);
+                begins.insert(0, begin ? "" + (char) ('A' + k) : "");
+                line += sizes[k];
+            }
+            Desk.due("columns of " + source + " by " + style, new AllRows(sizes, floats).best, begins.toString());
+        }
     }
 
     private static void noRow() {
